@@ -1202,7 +1202,7 @@ public final class PhraseFerry {
         void readOff(Chart chart, int from, int to, int item) {
             nodes = 0;
             grow(NONE, 0, from, to, item);
-            for (int node = 0; node < nodes; node++) {
+            for (int node = 0; node < nodes && node < MOST_WORDS; node++) {
                 goDown(node, chart);
             }
             arrange();

@@ -107,7 +107,10 @@ public final class ReasonsTest {
         CHECK.is("30: a part of a part", reasonsFor(x, "a v b a b"), List.of("f19", "f12", "f11"));
         Check.stem(x, 0, "c", 'N', 3, 0);
         CHECK.is("30: the cause is the last", reasonsFor(x, "a v b a c"), List.of("f19", "f12", "f11", "n13"));
-        CHECK.is("30: the longest chain", reasonsFor(x, "a v b a a c"), List.of("f19", "f12", "f11", "f11", "n13"));
+        CHECK.is("30: a longer chain", reasonsFor(x, "a v b a a c"), List.of("f19", "f12", "f11", "f11", "n13"));
+        Check.rule(x, 0, "S=V*+N", 1);
+        CHECK.is("30: the longest chain", reasonsFor(x, "v b a b a c"),
+                List.of("f19", "f12", "f11", "f12", "f11", "n13"));
     }
 
     private static void firstPart() {

@@ -19,6 +19,7 @@ public final class TranslateTest {
         bestItemsOfPieces();
         madePieces();
         fullSentence();
+        mostForms();
         wrong();
         back();
         CHECK.end();
@@ -376,6 +377,34 @@ public final class TranslateTest {
         }
         CHECK.is("25: six copied words", Check.translated(x), "p" + (" *" + "q".repeat(40)).repeat(6));
         CHECK.is("28: six", x.copied(), 6);
+    }
+
+    /** 600 forms, no two alike; then a joint makes others of many of them. */
+    private static void mostForms() {
+        PhraseFerry x = new PhraseFerry();
+        String letters = "abcdefghijklmnopqrstuvwxyz";
+        x.addEnding(0, 'S', 0);
+        for (int i = 0; i < 20; i++) {
+            Check.ending(x, 1, letters.substring(i, i + 1), 'S', 0);
+        }
+        for (int meaning = 0; meaning < 30; meaning++) {
+            Check.stem(x, 0, letters.charAt(meaning / 26) + "" + letters.charAt(meaning % 26), 'S', meaning, 0);
+            Check.stem(x, 1, letters.charAt(meaning % 26) + "" + letters.charAt(meaning / 26), 'S', meaning, 0);
+            x.addTransfer(0, meaning, -1, meaning);
+        }
+        for (String joined : new String[] {"a", "z"}) {
+            for (int meaning = 0; meaning < 30; meaning++) {
+                x.begin(0);
+                Check.say(x, letters.charAt(meaning / 26) + "" + letters.charAt(meaning % 26));
+                String ending = meaning >= 26 ? "ba" : joined.equals("a") ? "aa" : "ab";
+                CHECK.is("25: of 600 forms, meaning " + meaning, Check.translated(x),
+                        "w " + letters.charAt(meaning % 26) + ending);
+                CHECK.is("32: of 600 forms, meaning " + meaning, x.back(), 'e');
+            }
+            if (joined.equals("a")) {
+                x.addJoint(1, 'a', 'a', 'z', 'z');
+            }
+        }
     }
 
     private static void wrong() {
