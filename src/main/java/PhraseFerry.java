@@ -140,13 +140,14 @@ public final class PhraseFerry {
             throws IndexOutOfBoundsException, IllegalArgumentException, IllegalStateException {
         checkLanguage(language);
         checkRange(isCategory(category) && isCategory(left));
-        checkRange(isCategory(right) || right == '-');
-        checkRange(role >= 0 && role < ROLES);
-        checkRange(right != '-' || left < category);
+        boolean isOfOne = right == '-';
+        checkRange(isOfOne ? left < category : isCategory(right) && isRole(role));
         Language words = languages[language];
         checkRoom(words.rules.size() < MOST_RULES);
-        int rightCategory = right == '-' ? NONE : right - 'A';
-        words.rules.add(new Rule(category - 'A', left - 'A', rightCategory, isLeftHead, role));
+        int rightCategory = isOfOne ? NONE : right - 'A';
+        // A rule of one may be told with any number for the role, which must not get further.
+        int keptRole = isOfOne ? 0 : role;
+        words.rules.add(new Rule(category - 'A', left - 'A', rightCategory, isLeftHead, keptRole));
         chart.renewFor(words);
         return words.rules.size() - 1;
     }
@@ -156,12 +157,13 @@ public final class PhraseFerry {
         checkLanguage(language);
         Language words = languages[language];
         checkIndex(rule >= 0 && rule < words.rules.size());
-        checkRange(fit >= 0 && fit <= MOST_FIT);
+        Rule told = words.rules.get(rule);
+        checkRange(told.isOfOne() || fit >= 0 && fit <= MOST_FIT);
         checkRange(govern >= 0 && govern < CASES);
         checkRange(weight >= 0 && weight <= MOST_WEIGHT);
-        Rule told = words.rules.get(rule);
         int before = told.cost;
-        told.ask(fit, govern, weight);
+        // A rule of one may be told with any number for what must fit, which must not get further.
+        told.ask(told.isOfOne() ? 0 : fit, govern, weight);
         chart.renewFor(words);
         return before;
     }
@@ -180,8 +182,7 @@ public final class PhraseFerry {
     public int turnRole(int language, int role, int target)
             throws IndexOutOfBoundsException, IllegalArgumentException {
         checkLanguage(language);
-        checkRange(role >= 0 && role < ROLES);
-        checkRange(target >= 0 && target < ROLES);
+        checkRange(isRole(role) && isRole(target));
         int[] roles = languages[language].roles;
         int before = roles[role];
         roles[role] = target;
@@ -427,6 +428,10 @@ public final class PhraseFerry {
 
     private static boolean isMeaning(int meaning) {
         return meaning >= 0 && meaning < MEANINGS;
+    }
+
+    private static boolean isRole(int role) {
+        return role >= 0 && role < ROLES;
     }
 
     private static boolean isFeatures(int features) {

@@ -148,7 +148,7 @@ final class Duel {
         char left = isOfOne ? (char) Math.min(one, other) : one;
         char right = isOfOne ? '-' : other;
         boolean isLeftHead = random.nextBoolean();
-        int role = random.nextInt(colour.roles);
+        int role = isOfOne && random.nextInt(4) == 0 ? random.nextInt() : random.nextInt(colour.roles);
         go("addRule(" + language + ", '" + made + "', '" + left + "', '" + right + "', " + isLeftHead + ", " + role
                 + ")", () -> ferry.addRule(language, made, left, right, isLeftHead, role),
                 () -> plain.addRule(language, made, left, right, isLeftHead, role));
@@ -158,7 +158,9 @@ final class Duel {
     }
 
     private void setRule(int language, int rule) {
-        int fit = random.nextInt(8);
+        boolean isOfOne = rule < plain.languages[language].rules.size()
+                && plain.languages[language].rules.get(rule).right == '-';
+        int fit = isOfOne && random.nextInt(2) == 0 ? random.nextInt() : random.nextInt(8);
         int govern = random.nextInt(2) * random.nextInt(4);
         int weight = random.nextInt(2) == 0 ? random.nextInt(3) : random.nextInt(10);
         go("setRule(" + language + ", " + rule + ", " + fit + ", " + govern + ", " + weight + ")",

@@ -179,7 +179,7 @@ final class PlainFerry {
     int addRule(int language, char category, char left, char right, boolean isLeftHead, int role) {
         index(language == 0 || language == 1);
         require(isCategory(category) && isCategory(left) && (isCategory(right) || right == '-')
-                && 0 <= role && role <= 7 && (right != '-' || left < category));
+                && (right == '-' ? left < category : 0 <= role && role <= 7));
         List<Rule> rules = languages[language].rules;
         room(rules.size() < 24);
         Rule rule = new Rule();
@@ -196,8 +196,9 @@ final class PlainFerry {
     int setRule(int language, int rule, int fit, int govern, int weight) {
         index(language == 0 || language == 1);
         index(0 <= rule && rule < languages[language].rules.size());
-        require(0 <= fit && fit <= 7 && 0 <= govern && govern <= 3 && 0 <= weight && weight <= 9);
         Rule told = languages[language].rules.get(rule);
+        require((told.right == '-' || 0 <= fit && fit <= 7) && 0 <= govern && govern <= 3
+                && 0 <= weight && weight <= 9);
         int before = told.weight;
         told.fit = fit;
         told.govern = govern;
