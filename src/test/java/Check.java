@@ -23,15 +23,9 @@ final class Check {
         }
     }
 
-    /** The call throws just this class, not one below it, as those that the machine throws are. */
+    /** The call throws just this class, not one below it, and throws it itself. */
     void fails(String what, Class<? extends RuntimeException> due, Call call) {
-        Object got;
-        try {
-            got = call.answer();
-        } catch (RuntimeException e) {
-            got = e.getClass();
-        }
-        is(what, got, due);
+        is(what, answerOf(call), due.getSimpleName());
     }
 
     void end() {
@@ -39,6 +33,21 @@ final class Check {
         if (wrong > 0 || checks == 0) {
             System.exit(1);
         }
+    }
+
+    /** The answer as text, or the name of what is thrown. */
+    static String answerOf(Call call) {
+        try {
+            return String.valueOf(call.answer());
+        } catch (RuntimeException e) {
+            return (isThrownByFerry(e) ? "" : "by the machine: ") + e.getClass().getSimpleName();
+        }
+    }
+
+    /** What the machine or its library throws has its own place on top, or none. */
+    private static boolean isThrownByFerry(RuntimeException e) {
+        StackTraceElement[] places = e.getStackTrace();
+        return places.length > 0 && List.of("PhraseFerry", "PlainFerry").contains(places[0].getClassName());
     }
 
     // ---- calls that tests need often

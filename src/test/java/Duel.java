@@ -4,10 +4,6 @@ import java.util.TreeMap;
 
 /** One run of at most 512 calls, each made on a PhraseFerry and on a PlainFerry, which must agree. */
 final class Duel {
-    interface Call {
-        Object answer();
-    }
-
     /** How a run is coloured: few letters, categories and roles make words and sentences meet. */
     record Colour(String letters, String categories, int meanings, int roles, double marked, double ones,
             int stems, int endings, int rules, int longestStem, double weighted, double missing) { }
@@ -347,13 +343,13 @@ final class Duel {
         }
     }
 
-    private void go(String call, Call onFerry, Call onPlain) {
-        if (fault != null || calls >= CALLS && !call.startsWith("charAt")) {
+    private void go(String call, Check.Call onFerry, Check.Call onPlain) {
+        if (fault != null || calls >= CALLS) {
             return;
         }
-        calls += call.startsWith("charAt") ? 0 : 1;
-        String got = answerOf(onFerry);
-        String want = answerOf(onPlain);
+        calls++;
+        String got = Check.answerOf(onFerry);
+        String want = Check.answerOf(onPlain);
         history.append(call).append(" -> ").append(want).append('\n');
         note(call.substring(0, call.indexOf('(')) + (want.length() > 4 && want.contains("Exc") ? " throws" : ""));
         if (call.equals("back()")) {
@@ -366,14 +362,5 @@ final class Duel {
 
     private void note(String what) {
         seen.merge(what, 1, Integer::sum);
-    }
-
-    /** The answer as text; what the machine itself throws never equals what is due. */
-    private static String answerOf(Call call) {
-        try {
-            return String.valueOf(call.answer());
-        } catch (RuntimeException e) {
-            return e.getClass().getSimpleName();
-        }
     }
 }

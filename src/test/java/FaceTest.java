@@ -113,6 +113,11 @@ public final class FaceTest {
         for (String due : DUE) {
             names.add(due.substring(due.indexOf(' ') + 1, due.indexOf('(')));
         }
+        for (Method method : face.getDeclaredMethods()) {
+            boolean isOverload = isHidden(method) && names.contains(method.getName());
+            CHECK.is(method + " has a name of its own", isOverload, false);
+            CHECK.is(method + " has few parameters", method.getParameterCount() <= 7, true);
+        }
         for (Class<?> own : face.getDeclaredClasses()) {
             CHECK.is(own + " is static", Modifier.isStatic(own.getModifiers()), true);
             CHECK.is(own + " is not shown", Modifier.isPublic(own.getModifiers()), false);

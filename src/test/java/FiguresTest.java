@@ -1,13 +1,17 @@
+import java.lang.reflect.Field;
+
 /** Promises 33 to 37: what was found, translations, shares and means, and whether the chart is sound. */
 public final class FiguresTest {
     private static final Check CHECK = new Check("FiguresTest");
 
     public static void main(String[] args) {
         foundByWords();
+        foundByEachEdit();
         foundByTellings();
         foundByNothing();
         translations();
         soundness();
+        spoiltCharts();
         CHECK.end();
     }
 
@@ -69,6 +73,63 @@ public final class FiguresTest {
         CHECK.is("33: nothing is left behind begin", put(x, 0, "b"), 93);
         CHECK.is("33: the only one is taken out", remove(x, 0), 93);
         CHECK.is("33: and put in again", put(x, 0, "b"), 94);
+    }
+
+    /** What an edit at each place of a sentence of each length takes away, and what moves along. */
+    private static void foundByEachEdit() {
+        for (int words = 0; words <= 6; words++) {
+            for (int index = 0; index <= words; index++) {
+                int ahead = index;
+                int behind = words - index;
+                String name = index + " of " + words;
+                if (words < 6) {
+                    PhraseFerry x = saying(words);
+                    int before = x.found();
+                    CHECK.is("33: put in at " + name, put(x, index, "f") - before, (ahead + 1) * (behind + 1));
+                    CHECK.is("33: order behind putting in at " + name, order(x),
+                            "bcdefg".substring(0, index) + "f" + "bcdefg".substring(index, words));
+                }
+                if (index < words) {
+                    PhraseFerry x = saying(words);
+                    int before = x.found();
+                    CHECK.is("33: set at " + name, set(x, index, "f") - before, (ahead + 1) * behind);
+                    CHECK.is("33: order behind setting at " + name, order(x),
+                            "bcdefg".substring(0, index) + "f" + "bcdefg".substring(index + 1, words));
+                    PhraseFerry y = saying(words);
+                    before = y.found();
+                    CHECK.is("33: taken out at " + name, remove(y, index) - before, ahead * (behind - 1));
+                    CHECK.is("33: order behind taking out at " + name, order(y),
+                            "bcdefg".substring(0, index) + "bcdefg".substring(index + 1, words));
+                }
+            }
+        }
+    }
+
+    private static PhraseFerry saying(int words) {
+        PhraseFerry x = told();
+        Check.stem(x, 0, "g", 'A', 6, 0);
+        for (int i = 0; i < words; i++) {
+            Check.say(x, "bcdefg".substring(i, i + 1));
+        }
+        return x;
+    }
+
+    /** The words as all of the stretches tell them: each is the first word with the rest as its only part. */
+    private static String order(PhraseFerry x) {
+        StringBuilder out = new StringBuilder();
+        String[] ahead = new String[7];
+        for (int from = x.words() - 1; from >= 0; from--) {
+            String first = Check.meaning(x, from, from + 1, 'A');
+            out.append((char) ('a' + Integer.parseInt(first)));
+            for (int to = x.words(); to > from + 1; to--) {
+                ahead[to] = first + "(1:" + ahead[to] + ")";
+                if (!ahead[to].equals(Check.meaning(x, from, to, 'A'))) {
+                    return "another meaning from " + from + " to " + to;
+                }
+            }
+            ahead[from + 1] = first;
+        }
+        return out.reverse().toString();
     }
 
     private static void foundByTellings() {
@@ -173,5 +234,38 @@ public final class FiguresTest {
             }
             CHECK.is("37: edit " + i, x.isSound(), true);
         }
+    }
+
+    /** No call spoils a chart, so that it is done here by hand: an item less, other readings, another weight. */
+    private static void spoiltCharts() {
+        String[] names = {"present", "counts", "best"};
+        for (String name : names) {
+            for (int stretch = 0; stretch < 6; stretch++) {
+                PhraseFerry x = told();
+                Check.say(x, "b c d");
+                long[] row = rowOfChart(x, stretch, name);
+                CHECK.is("37: sound at first", x.isSound(), true);
+                long kept = row[0];
+                row[0] = name.equals("best") ? kept + (1L << 40) : kept ^ 1;
+                CHECK.is("37: other " + name + " of stretch " + stretch, x.isSound(), false);
+                row[0] = kept;
+                CHECK.is("37: mended", x.isSound(), true);
+            }
+        }
+    }
+
+    private static long[] rowOfChart(PhraseFerry x, int stretch, String name) {
+        try {
+            Object chart = valueOf(x, "chart");
+            return (long[]) valueOf(((Object[]) valueOf(chart, "stretches"))[stretch], name);
+        } catch (ReflectiveOperationException e) {
+            throw new IllegalStateException("the chart is held in another way now", e);
+        }
+    }
+
+    private static Object valueOf(Object holder, String name) throws ReflectiveOperationException {
+        Field field = holder.getClass().getDeclaredField(name);
+        field.setAccessible(true);
+        return field.get(holder);
     }
 }

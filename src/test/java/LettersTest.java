@@ -23,13 +23,39 @@ public final class LettersTest {
         CHECK.is("1: isSound", x.isSound(), true);
         CHECK.fails("1: nothing is written", IndexOutOfBoundsException.class, () -> x.charAt(0));
         CHECK.fails("1: nothing can be transferred", NoSuchElementException.class, x::writeTransferred);
-        CHECK.fails("1: no stems", IndexOutOfBoundsException.class, () -> x.write(0, 0, 0));
-        CHECK.fails("1: no rules", IndexOutOfBoundsException.class, () -> x.setRule(1, 0, 0, 0, 0));
+        CHECK.fails("1: nothing can be translated", IllegalStateException.class, x::translate);
+        CHECK.fails("1: nothing can be read back", IllegalStateException.class, x::back);
+        CHECK.fails("1: no share", ArithmeticException.class, x::wholeShare);
+        CHECK.fails("1: no mean", ArithmeticException.class, x::meanPieces);
+        CHECK.fails("1: no reason", IndexOutOfBoundsException.class, () -> x.reason(0));
+        CHECK.fails("1: no meaning of a reason", IndexOutOfBoundsException.class, () -> x.reasonMeaning(0));
+        CHECK.fails("1: no word", IndexOutOfBoundsException.class, () -> x.analyses(0));
         CHECK.is("1: the buffer is empty", x.clear(), 0);
-        Check.ending(x, 0, "", 'N', 0);
-        Check.stem(x, 0, "a", 'N', 0, 0);
-        Check.say(x, "a");
-        CHECK.is("1: the sentence is of language 0", x.analyses(0), 1);
+        CHECK.is("1: the sentence is empty", x.begin(0), 0);
+        newLanguages();
+        PhraseFerry y = new PhraseFerry();
+        Check.ending(y, 0, "", 'N', 0);
+        Check.stem(y, 0, "a", 'N', 0, 0);
+        Check.say(y, "a");
+        CHECK.is("1: the sentence is of language 0", y.analyses(0), 1);
+    }
+
+    /** Each of them has nothing so far, whatever the other one was told. */
+    private static void newLanguages() {
+        PhraseFerry x = new PhraseFerry();
+        for (int language = 0; language < 2; language++) {
+            int asked = language;
+            CHECK.fails("1: no stems", IndexOutOfBoundsException.class, () -> x.write(asked, 0, 0));
+            CHECK.fails("1: no rules", IndexOutOfBoundsException.class, () -> x.setRule(asked, 0, 0, 0, 0));
+            CHECK.is("1: the first joint", x.addJoint(language, 'a', 'b', 'c', 'd'), 1);
+            CHECK.is("1: the first rule", Check.rule(x, language, "S=N+V*", 1), 0);
+            CHECK.is("1: its weight", x.setRule(language, 0, 7, 3, 9), 0);
+            CHECK.is("1: the first transfer", x.addTransfer(language, 0, -1, 0), 1);
+            CHECK.is("1: the first ending", x.addEnding(language, 'N', 0), 0);
+            CHECK.fails("1: still no stems", IndexOutOfBoundsException.class, () -> x.write(asked, 0, 0));
+            CHECK.is("1: the first stem", Check.stem(x, language, "a", 'N', 0, 0), 0);
+            CHECK.is("1: its form", Check.form(x, language, 0, 0), "a");
+        }
     }
 
     private static void type() {

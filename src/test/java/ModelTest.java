@@ -4,7 +4,7 @@ import java.util.TreeMap;
 /** Compares runs of calls with what PlainFerry answers to them. */
 public final class ModelTest {
     public static void main(String[] args) {
-        int runs = args.length > 0 ? Integer.parseInt(args[0]) : 400;
+        int runs = args.length > 0 ? Integer.parseInt(args[0]) : 800;
         int first = args.length > 1 ? Integer.parseInt(args[1]) : 0;
         Map<String, Integer> seen = new TreeMap<>();
         int wrong = 0;

@@ -9,6 +9,8 @@ public final class TranslateTest {
         whole();
         numbers();
         leastOfMade();
+        leastOfBothSides();
+        whatRulesAskFor();
         partsInAnyOrder();
         contexts();
         roles();
@@ -18,8 +20,7 @@ public final class TranslateTest {
         longestPieces();
         bestItemsOfPieces();
         madePieces();
-        fullSentence();
-        mostForms();
+        longWords();
         wrong();
         back();
         CHECK.end();
@@ -153,6 +154,72 @@ public final class TranslateTest {
         CHECK.is("25: the least text of two words", Check.translated(y), "w a b");
         y.setRule(1, 1, 0, 0, 1);
         CHECK.is("25: a blank is ahead of letters", Check.translated(y), "w b a");
+    }
+
+    /** The weights of both sides of a rule are added, be the head on the left or on the right. */
+    private static void leastOfBothSides() {
+        for (String shape : new String[] {"S=N+V*", "S=N*+V"}) {
+            PhraseFerry x = new PhraseFerry();
+            letters(x, 0, "nv", "NV");
+            letters(x, 1, "nv", "AA");
+            Check.rule(x, 0, shape, 0);
+            transferAll(x, 2);
+            Check.ending(x, 1, "", 'B', 1);
+            Check.stem(x, 1, "a", 'B', 1, 0);
+            Check.stem(x, 1, "z", 'B', 2, 0);
+            int cheapLeft = Check.rule(x, 1, "N=A", 0, 0, 0, 4);
+            int dearLeft = Check.rule(x, 1, "N=B", 0, 0, 0, 5);
+            int cheapRight = Check.rule(x, 1, "V=A", 0, 0, 0, 6);
+            int dearRight = Check.rule(x, 1, "V=B", 0, 0, 0, 7);
+            Check.rule(x, 1, shape, 0, 0, 0, 2);
+            Check.say(x, "n v");
+            CHECK.is("25: both are the least, " + shape, Check.translated(x), "w n v");
+            x.setRule(1, dearRight, 0, 0, 5);
+            CHECK.is("25: another one on the right, " + shape, Check.translated(x), "w n z");
+            x.setRule(1, dearLeft, 0, 0, 4);
+            CHECK.is("25: the least text on the left, " + shape, Check.translated(x), "w a z");
+            x.setRule(1, cheapLeft, 0, 0, 3);
+            x.setRule(1, cheapRight, 0, 0, 5);
+            CHECK.is("25: the least text on the right, " + shape, Check.translated(x), "w n v");
+        }
+    }
+
+    /** In making, rules ask for the same as in reading. */
+    private static void whatRulesAskFor() {
+        int[][] rows = {{16, 32, 0, 0, 1}, {16, 32, 1, 0, 0}, {16, 16, 1, 0, 1}, {16, 0, 1, 0, 1}, {4, 8, 2, 0, 0},
+            {4, 8, 5, 0, 1}, {1, 2, 4, 0, 0}, {1, 2, 3, 0, 1}, {1, 0, 0, 2, 0}, {2, 0, 0, 2, 1}, {0, 1, 0, 2, 1},
+            {0, 1, 4, 2, 0}, {0, 2, 4, 2, 1}, {0, 0, 7, 3, 1}, {63, 63, 7, 3, 1}, {63, 63, 7, 1, 0}};
+        for (int[] row : rows) {
+            PhraseFerry x = new PhraseFerry();
+            letters(x, 0, "nv", "NV");
+            Check.rule(x, 0, "S=N+V*", 0);
+            transferAll(x, 2);
+            x.addEnding(1, 'N', 0);
+            x.addEnding(1, 'V', 0);
+            Check.stem(x, 1, "n", 'N', 1, row[0]);
+            Check.stem(x, 1, "v", 'V', 2, row[1]);
+            Check.rule(x, 1, "S=N+V*", 0, row[2], row[3], 0);
+            Check.say(x, "n v");
+            String name = row[0] + " and " + row[1] + ", fit " + row[2] + ", case " + row[3];
+            CHECK.is("25: " + name, Check.translated(x), (row[4] == 1 ? "w" : "p") + " n v");
+            CHECK.is("30: " + name, Check.reasons(x), row[4] == 1 ? List.of() : List.of("f2"));
+        }
+        for (int features = 0; features < 4; features++) {
+            for (int govern = 0; govern < 4; govern++) {
+                PhraseFerry x = new PhraseFerry();
+                letters(x, 0, "n", "S");
+                transferAll(x, 1);
+                x.addEnding(1, 'N', 0);
+                Check.stem(x, 1, "n", 'N', 1, 60 + features);
+                Check.rule(x, 1, "S=N", 0, 0, govern, 0);
+                Check.say(x, "n");
+                boolean isRight = features == 0 || govern == 0 || features == govern;
+                CHECK.is("25: of one, the case " + govern + " of " + features, Check.translated(x),
+                        isRight ? "w n" : "p n");
+                CHECK.is("30: of one, the case " + govern + " of " + features, Check.reasons(x),
+                        isRight ? List.of() : List.of("s1"));
+            }
+        }
     }
 
     private static void partsInAnyOrder() {
@@ -359,7 +426,7 @@ public final class TranslateTest {
         CHECK.is("25: the other one", Check.translated(y), "p x w");
     }
 
-    private static void fullSentence() {
+    private static void longWords() {
         PhraseFerry x = new PhraseFerry();
         letters(x, 0, "a", "S");
         Check.rule(x, 0, "S=S*+S", 3);
@@ -371,40 +438,6 @@ public final class TranslateTest {
         String word = "ccccccccdddd";
         CHECK.is("25: six of the longest words", Check.translated(x), "w" + (" " + word).repeat(6));
         CHECK.is("32: their meaning", x.back(), 'd');
-        x.begin(0);
-        for (int i = 0; i < 6; i++) {
-            Check.say(x, "q".repeat(40));
-        }
-        CHECK.is("25: six copied words", Check.translated(x), "p" + (" *" + "q".repeat(40)).repeat(6));
-        CHECK.is("28: six", x.copied(), 6);
-    }
-
-    /** 600 forms, no two alike; then a joint makes others of many of them. */
-    private static void mostForms() {
-        PhraseFerry x = new PhraseFerry();
-        String letters = "abcdefghijklmnopqrstuvwxyz";
-        x.addEnding(0, 'S', 0);
-        for (int i = 0; i < 20; i++) {
-            Check.ending(x, 1, letters.substring(i, i + 1), 'S', 0);
-        }
-        for (int meaning = 0; meaning < 30; meaning++) {
-            Check.stem(x, 0, letters.charAt(meaning / 26) + "" + letters.charAt(meaning % 26), 'S', meaning, 0);
-            Check.stem(x, 1, letters.charAt(meaning % 26) + "" + letters.charAt(meaning / 26), 'S', meaning, 0);
-            x.addTransfer(0, meaning, -1, meaning);
-        }
-        for (String joined : new String[] {"a", "z"}) {
-            for (int meaning = 0; meaning < 30; meaning++) {
-                x.begin(0);
-                Check.say(x, letters.charAt(meaning / 26) + "" + letters.charAt(meaning % 26));
-                String ending = meaning >= 26 ? "ba" : joined.equals("a") ? "aa" : "ab";
-                CHECK.is("25: of 600 forms, meaning " + meaning, Check.translated(x),
-                        "w " + letters.charAt(meaning % 26) + ending);
-                CHECK.is("32: of 600 forms, meaning " + meaning, x.back(), 'e');
-            }
-            if (joined.equals("a")) {
-                x.addJoint(1, 'a', 'a', 'z', 'z');
-            }
-        }
     }
 
     private static void wrong() {
