@@ -27,6 +27,7 @@ public final class LimitsTest {
         mostParts();
         deepestParts();
         nothing();
+        mostCalls();
         CHECK.end();
     }
 
@@ -434,5 +435,27 @@ public final class LimitsTest {
         CHECK.is("37: nothing told", x.isSound(), true);
         x.begin(1);
         CHECK.is("37: no words", x.isSound(), true);
+    }
+
+    /** An object is used for 512 calls: edits of a full sentence, each of them followed by what it found. */
+    private static void mostCalls() {
+        PhraseFerry x = ofTwoLanguages("ab", "AB");
+        Check.rule(x, 0, "A=A*+B", 1);
+        Check.say(x, "a b b b b b");
+        int calls = 14 + 1 + 12;
+        int found = 21;
+        for (int edit = 0; calls + 4 <= 512; edit++) {
+            int index = edit % 6;
+            x.type(index == 0 ? 'a' : 'b');
+            CHECK.is("15: edit " + edit, x.setWord(index), 1);
+            found += (index + 1) * (6 - index);
+            CHECK.is("33: edit " + edit, x.found(), found);
+            calls += 3;
+        }
+        while (calls < 511) {
+            x.words();
+            calls++;
+        }
+        CHECK.is("23: the 512th call", x.writeMeaning(0, 6, 'A'), 22);
     }
 }

@@ -387,6 +387,13 @@ public final class TranslateTest {
         CHECK.is("25: only the best item counts", Check.translated(x), "p *a");
         x.addTransfer(0, 1, -1, 1);
         CHECK.is("25: of the lowest category", Check.translated(x), "p x");
+        Check.stem(x, 0, "b", 'A', 1, 2);
+        Check.stem(x, 0, "b", 'A', 3, 1);
+        Check.type(x, "b");
+        x.setWord(0);
+        CHECK.is("25: of the lowest features, without a transfer", Check.translated(x), "p *b");
+        x.addTransfer(0, 3, -1, 2);
+        CHECK.is("25: of the lowest features", Check.translated(x), "p y");
         PhraseFerry y = new PhraseFerry();
         letters(y, 0, "ab", "AB");
         Check.stem(y, 0, "c", 'B', 3, 0);
