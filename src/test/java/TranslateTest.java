@@ -11,6 +11,7 @@ public final class TranslateTest {
         leastOfMade();
         leastOfBothSides();
         whatRulesAskFor();
+        refusedJoins();
         partsInAnyOrder();
         contexts();
         roles();
@@ -433,6 +434,23 @@ public final class TranslateTest {
         CHECK.is("25: the other one", Check.translated(y), "p x w");
     }
 
+    /** What a rule refuses is no item, not even of Z, the last category there is. */
+    private static void refusedJoins() {
+        PhraseFerry x = new PhraseFerry();
+        letters(x, 0, "ab", "AB");
+        Check.rule(x, 0, "S=A*+B", 1);
+        transferAll(x, 2);
+        Check.ending(x, 1, "k", 'A', 16);
+        Check.stem(x, 1, "y", 'A', 1, 0);
+        Check.ending(x, 1, "m", 'B', 32);
+        Check.stem(x, 1, "z", 'B', 2, 0);
+        Check.rule(x, 1, "A=A*+B", 1, 1, 0, 0);
+        Check.rule(x, 1, "S=Z*+B", 1);
+        Check.say(x, "a b");
+        CHECK.is("25: nothing is made of what was refused", Check.translated(x), "p yk zm");
+        CHECK.is("30: no item has all parts", Check.reasons(x), List.of("f1"));
+    }
+
     private static void longWords() {
         PhraseFerry x = new PhraseFerry();
         letters(x, 0, "a", "S");
@@ -493,6 +511,7 @@ public final class TranslateTest {
         CHECK.is("32: no item S any more", x.back(), 'n');
         x.setRule(1, 1, 0, 1, 0);
         CHECK.is("32: it is there again", x.back(), 'e');
+        backOfWhatWasTransferred();
         PhraseFerry y = new PhraseFerry();
         letters(y, 0, "ab", "SS");
         letters(y, 1, "kk", "SS");
@@ -506,5 +525,38 @@ public final class TranslateTest {
         Check.say(y, "b");
         y.translate();
         CHECK.fails("32: no whole any more", IllegalStateException.class, y::back);
+    }
+
+    /** What was transferred stays what it was, whatever is edited, told or written behind the translation. */
+    private static void backOfWhatWasTransferred() {
+        PhraseFerry x = nounsAndVerbs();
+        Check.say(x, "cats see cat");
+        CHECK.is("25: a whole", Check.translated(x), "w kate katn zie");
+        x.removeWord(0);
+        CHECK.is("32: a word was taken out", x.back(), 'e');
+        Check.type(x, "cat");
+        x.insertWord(0);
+        CHECK.is("26: another number", transferred(x), "22(0:21.1,1:21.1)");
+        CHECK.is("32: another meaning was written", x.back(), 'e');
+        x.write(1, 0, 3);
+        CHECK.is("32: a form was written", x.back(), 'e');
+        CHECK.is("37: sound", x.isSound(), true);
+        CHECK.is("32: the chart was looked at", x.back(), 'e');
+        Check.stem(x, 0, "see", 'V', 3, 0);
+        x.setRule(0, 1, 0, 0, 9);
+        CHECK.is("32: the language of the sentence was told more", x.back(), 'e');
+        x.begin(0);
+        CHECK.is("32: the sentence is gone", x.back(), 'e');
+        Check.rule(x, 1, "S=N+P*", 5, 0, 1, 0);
+        CHECK.is("32: a later rule is not read first", x.back(), 'e');
+        x.setRule(1, 1, 0, 1, 1);
+        CHECK.is("32: the later one has another role", x.back(), 'd');
+        CHECK.is("32: it stays the meaning of the output", x.back(), 'd');
+        Check.say(x, "cat see cats");
+        CHECK.is("25: another whole", Check.translated(x), "w kat katen zie");
+        CHECK.is("26: its meaning", transferred(x), "22(0:21.1,1:21.2)");
+        CHECK.is("32: the last translation, with the later rule", x.back(), 'd');
+        x.setRule(1, 1, 0, 1, 0);
+        CHECK.is("32: the last translation", x.back(), 'e');
     }
 }
